@@ -389,13 +389,13 @@ public final class FireWards {
         if (freshSize == 0) {
             return;
         }
-        for (int i = 0; i < freshSize; i++) {
+        for (int i = 0; i < freshSize && i < fresh.length; i++) {
             // Ahead of all bells, so that who pulled at any of these can follow the first of them.
             crews.forget(fresh[i]);
         }
         int law = book.inForce(hour / DAY_HOURS);
         int fires = city.tally(BURNING);
-        for (int i = 0; i < freshSize; i++) {
+        for (int i = 0; i < freshSize && i < fresh.length; i++) {
             ringBell(fresh[i], law, fires);
         }
     }
@@ -733,16 +733,16 @@ public final class FireWards {
         }
 
         private boolean letterAt(int at) {
-            return at < length && text[at] >= 'a' && text[at] <= 'z';
+            return text[at] >= 'a' && text[at] <= 'z';
         }
 
         private boolean digitAt(int at) {
-            return at < length && text[at] >= '0' && text[at] <= '9';
+            return text[at] >= '0' && text[at] <= '9';
         }
 
         private int takeNumber(int start) {
             int number = 0;
-            while (digitAt(next)) {
+            while (next < length && digitAt(next)) {
                 if (next - start < MOST_DIGITS) {
                     number = 10 * number + text[next] - '0';
                 }
@@ -752,7 +752,7 @@ public final class FireWards {
         }
 
         private int takeWord(int start) {
-            while (letterAt(next)) {
+            while (next < length && letterAt(next)) {
                 next++;
             }
             int word = keyword(start);
@@ -1016,7 +1016,7 @@ public final class FireWards {
             if (law < 0 || law >= book.size) {
                 return;
             }
-            for (int i = book.begin(law); i < book.end[law]; i++) {
+            for (int i = book.begin(law); i < book.end[law] && i < book.code.length; i++) {
                 take(book.code[i]);
             }
         }
@@ -1100,7 +1100,7 @@ public final class FireWards {
             Arrays.fill(steps, NONE);
             queued = 0;
             spread(goal, goal, 0);
-            for (int head = 0; head < queued; head++) {
+            for (int head = 0; head < queued && head < queue.length; head++) {
                 int cell = queue[head];
                 spread(cell, goal, steps[cell] + 1);
             }
@@ -1221,7 +1221,7 @@ public final class FireWards {
             if (city.has(extra)) {
                 see(extra, FIRE);
             }
-            for (int head = 0; head < queued; head++) {
+            for (int head = 0; head < queued && head < queue.length; head++) {
                 int node = queue[head];
                 if (node < size) {
                     goOnFromEntry(node);

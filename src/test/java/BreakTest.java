@@ -5,8 +5,9 @@ public final class BreakTest {
     public static void main(String[] args) {
         edges();
         kept();
+        rowsLaidAnew();
         Random random = new Random(20261116);
-        for (int i = 0; i < 400; i++) {
+        for (int i = 0; i < 2500; i++) {
             randomCity(random, i);
         }
         Due.end("BreakTest");
@@ -67,91 +68,120 @@ public final class BreakTest {
         Due.none("a fifth", () -> y.breaker(4));
     }
 
-    private static void randomCity(Random random, int number) {
-        int w = 1 + random.nextInt(number % 4 == 0 ? 8 : 5);
-        int h = 1 + random.nextInt(number % 4 == 0 ? 8 : 5);
+    /** Cities in which the rows that are found first must be laid anew for one more. */
+    private static void rowsLaidAnew() {
+        look(5, 6, 0x23f7d5e6L, 0x10000009L, 15, 5, 7, 23);
+        look(6, 4, 0x5ff977L, 0x800008L, 13, 0, 14);
+        look(5, 5, 0x1ef52eeL, 0x100400L, 18, 5, 21);
+        look(5, 5, 0x173fdbfL, 0x880200L, 15, 0, 12, 22);
+        look(6, 6, 0xdb5fe5fffL, 0x40000000L, 21, 6, 20);
+    }
+
+    private static void look(int w, int h, long whole, long fires, int told, int... due) {
         FireWards x = new FireWards(w - 1, h - 1);
-        int percent = 60 + random.nextInt(41);
+        for (int cell = 0; cell < w * h; cell++) {
+            if (((whole | fires) >>> cell & 1) != 0) {
+                x.house(cell, 9, 0);
+            }
+            if ((fires >>> cell & 1) != 0) {
+                x.light(cell);
+            }
+        }
+        compare("laid anew", x, told, due);
+        compare("tried", x, told, new Tries(x, w, h).fewest(told));
+    }
+
+    private static void compare(String city, FireWards x, int told, int[] due) {
+        int got = x.breaks(told);
+        Due.is(city + " breaks(" + told + ")", got, due == null ? FireWards.NONE : due.length);
+        for (int j = 0; due != null && j < due.length && got == due.length; j++) {
+            Due.is(city + " breaker(" + j + ")", x.breaker(j), due[j]);
+        }
+    }
+
+    private static void randomCity(Random random, int number) {
+        int w = 1 + random.nextInt(8);
+        int h = 1 + random.nextInt(8);
+        FireWards x = new FireWards(w - 1, h - 1);
+        int percent = 55 + random.nextInt(46);
         for (int cell = 0; cell < w * h; cell++) {
             if (random.nextInt(100) < percent) {
                 x.house(cell, 1 + random.nextInt(9), 0);
             }
         }
-        int fires = 1 + random.nextInt(4);
+        int fires = 1 + random.nextInt(6);
         for (int i = 0; i < fires; i++) {
             x.light(random.nextInt(w * h));
         }
-        int tried = w * h > 30 ? 3 : 8;
-        for (int i = 0; i < tried; i++) {
+        Tries tries = new Tries(x, w, h);
+        for (int i = 0; i < 6; i++) {
             int told = random.nextInt(w * h);
-            int[] due = byTrying(x, w, h, told);
-            int got = x.breaks(told);
-            Due.is("city " + number + " breaks(" + told + ")", got, due == null ? -1 : due.length);
-            for (int j = 0; due != null && j < due.length && got == due.length; j++) {
-                Due.is("city " + number + " breaker(" + j + ")", x.breaker(j), due[j]);
-            }
+            compare("city " + number, x, told, tries.fewest(told));
         }
     }
 
-    /** The first set of the fewest, in the order of rows; null if there is none. */
-    private static int[] byTrying(FireWards x, int w, int h, int told) {
-        int[] state = new int[w * h];
-        for (int cell = 0; cell < w * h; cell++) {
-            state[cell] = x.cell(cell, 0);
-        }
-        if (state[told] != 0) {
-            return null;
-        }
-        for (int size = 0; size <= 4; size++) {
-            int[] set = new int[size];
-            if (tries(state, w, h, told, set, 0, 0)) {
-                return set;
+    /** Tries all sets of houses, as bits of a long, in the order of rows. */
+    private static final class Tries {
+        private final int w;
+        private final int cells;
+        private long whole;
+        private long fires;
+        private long left;
+        private long right;
+
+        Tries(FireWards x, int w, int h) {
+            this.w = w;
+            cells = w * h;
+            for (int cell = 0; cell < cells; cell++) {
+                long bit = 1L << cell;
+                whole |= x.cell(cell, 0) == 0 ? bit : 0;
+                fires |= x.cell(cell, 0) == 1 ? bit : 0;
+                left |= cell % w == 0 ? bit : 0;
+                right |= cell % w == w - 1 ? bit : 0;
             }
         }
-        return null;
-    }
 
-    private static boolean tries(int[] state, int w, int h, int told, int[] set, int at, int from) {
-        if (at == set.length) {
-            return !comes(state, w, h, told);
-        }
-        for (int cell = from; cell < w * h; cell++) {
-            if (state[cell] == 0 && cell != told) {
-                set[at] = cell;
-                state[cell] = 3;
-                boolean found = tries(state, w, h, told, set, at + 1, cell + 1);
-                state[cell] = 0;
-                if (found) {
-                    return true;
+        /** The first set of the fewest; null if there is none. */
+        int[] fewest(int told) {
+            if ((whole >>> told & 1) == 0) {
+                return null;
+            }
+            for (int size = 0; size <= 4; size++) {
+                int[] set = new int[size];
+                if (holds(whole, told, set, 0, 0)) {
+                    return set;
                 }
             }
+            return null;
         }
-        return false;
-    }
 
-    /** Whether a row of whole houses leads from one beside a burning one to the told one. */
-    private static boolean comes(int[] state, int w, int h, int told) {
-        boolean[] seen = new boolean[w * h];
-        return comesFrom(state, w, h, told, seen);
-    }
-
-    private static boolean comesFrom(int[] state, int w, int h, int cell, boolean[] seen) {
-        seen[cell] = true;
-        int[][] ways = {{0, -1}, {0, 1}, {-1, 0}, {1, 0}};
-        for (int[] way : ways) {
-            int x = cell % w + way[0];
-            int y = cell / w + way[1];
-            if (x < 0 || x >= w || y < 0 || y >= h) {
-                continue;
+        private boolean holds(long standing, int told, int[] set, int at, int from) {
+            if (at == set.length) {
+                return !comes(standing, told);
             }
-            int other = y * w + x;
-            if (state[other] == 1) {
-                return true;
+            for (int cell = from; cell < cells; cell++) {
+                if ((standing >>> cell & 1) != 0 && cell != told) {
+                    set[at] = cell;
+                    if (holds(standing & ~(1L << cell), told, set, at + 1, cell + 1)) {
+                        return true;
+                    }
+                }
             }
-            if (state[other] == 0 && !seen[other] && comesFrom(state, w, h, other, seen)) {
-                return true;
-            }
+            return false;
         }
-        return false;
+
+        private boolean comes(long standing, int told) {
+            long before = 0;
+            long now = beside(fires) & standing;
+            while (now != before) {
+                before = now;
+                now |= beside(now) & standing;
+            }
+            return (now >>> told & 1) != 0;
+        }
+
+        private long beside(long set) {
+            return set << w | set >>> w | (set & ~right) << 1 | (set & ~left) >>> 1;
+        }
     }
 }

@@ -3,6 +3,7 @@ public final class CityTest {
     public static void main(String[] args) {
         newObjects();
         houses();
+        builtAnewOnWetAshes();
         wells();
         winds();
         cells();
@@ -68,6 +69,23 @@ public final class CityTest {
         Due.is("pulled down", x.cell(2, 0), 3);
         Due.yes("where one was pulled down", x.house(2, 2, 2));
         Due.is("built anew", x.cell(2, 3), 2);
+    }
+
+    private static void builtAnewOnWetAshes() {
+        // Cell 1 warms up to 5 and burns, is wetted a little, and is ashes in the end.
+        FireWards x = new FireWards(2, 0);
+        x.house(0, 9, 0);
+        x.house(1, 1, 1);
+        x.company(1, 1, 2);
+        x.light(0);
+        x.hours(6);
+        Due.is("ashes", x.cell(1, 0), 2);
+        Due.is("its warmth stays", x.cell(1, 4), 5);
+        Due.is("its wet stays", x.cell(1, 5), 1);
+        Due.is("its wood stays", x.cell(1, 1), 1);
+        x.house(1, 2, 3);
+        Due.is("warmth of the new one", x.cell(1, 4), 0);
+        Due.is("wet of the new one", x.cell(1, 5), 0);
     }
 
     private static void wells() {

@@ -8,6 +8,8 @@ public final class HourTest {
         quarrels();
         water();
         putOut();
+        warmthOfPutOut();
+        pulledToOne();
         putOutByNobody();
         burningDown();
         warmth();
@@ -47,6 +49,17 @@ public final class HourTest {
         Due.is("beside", x.of(0, 2), 5);
         x.hours(1);
         Due.is("stays", x.of(0, 2), 5);
+        // Upwards and to the left too.
+        FireWards u = new FireWards(1, 3);
+        u.house(0, 9, 0);
+        u.company(0, 1, 7);
+        u.light(0);
+        u.hours(1);
+        Due.is("up", u.of(0, 2), 5);
+        u.hours(1);
+        Due.is("up", u.of(0, 2), 3);
+        u.hours(1);
+        Due.is("up", u.of(0, 2), 1);
         // Round a burning house: 1 burns, so the way from 0 to 2 goes by 3, 4.
         FireWards y = new FireWards(2, 1);
         y.house(1, 9, 7);
@@ -206,6 +219,38 @@ public final class HourTest {
         Due.is("put out", x.of(0, 7), 1);
         Due.is("the other is not paid", x.of(1, 5), 0);
         Due.is("nor has put it out", x.of(1, 7), 0);
+    }
+
+    private static void warmthOfPutOut() {
+        // Cell 0 warms up to 5 beside cell 1, which is ashes when cell 0 is put out.
+        FireWards x = new FireWards(2, 1);
+        x.house(0, 3, 0);
+        x.house(1, 5, 1);
+        x.company(0, 6, 3);
+        x.light(1);
+        x.hours(4);
+        x.light(0);
+        Due.is("its warmth stays as it is lit", x.cell(0, 4), 4);
+        x.hours(1);
+        Due.is("and as it burns", x.cell(0, 4), 4);
+        Due.is("ashes", x.cell(1, 0), 2);
+        x.hours(1);
+        Due.is("put out", x.cell(0, 0), 0);
+        Due.is("cold", x.cell(0, 4), 0);
+    }
+
+    private static void pulledToOne() {
+        FireWards x = new FireWards(1, 0);
+        x.house(0, 4, 0);
+        x.company(0, 3, 1);
+        x.pull(0, 0);
+        x.hours(1);
+        Due.is("one is left", x.cell(0, 3), 1);
+        Due.is("it stands", x.cell(0, 0), 0);
+        Due.is("and is pulled at", x.of(0, 4), 1);
+        x.hours(1);
+        Due.is("none, not below", x.cell(0, 3), 0);
+        Due.is("pulled down", x.cell(0, 0), 3);
     }
 
     private static void putOutByNobody() {

@@ -90,6 +90,18 @@ public final class LawTest {
         fault("call not not 1;", 3, 9);
         fault("call 1 not 1;", 1, 7);
         fault("call and;", 3, 5);
+        fault("call call;", 3, 5);
+        fault("call or;", 3, 5);
+        fault("call pay 1;", 3, 5);
+        fault("call z;", 3, 5);
+        fault("call a;", 3, 5);
+        fault("call {;", 1, 5);
+        fault("call `;", 1, 5);
+        fault("call 1/2;", 1, 6);
+        fault("call 1:2;", 1, 6);
+        fault("call\r1;", 1, 4);
+        fault("call >1;", 1, 5);
+        fault("call \u00e9;", 1, 5);
         fault("call wards;", 3, 5);
         fault("call 1 and wood or  x<y;", 3, 20);
         fault("call 1 and #;", 1, 11);
@@ -219,6 +231,14 @@ public final class LawTest {
             Due.law(x, calls[i], 1);
             Due.is(calls[i], x.light(24), i < 10 ? 1 : 0);
         }
+        // Each company by itself: the first is called, the second is not.
+        FireWards z = new FireWards(1, 0);
+        z.house(0, 9, 6);
+        z.company(2, 4, 1);
+        z.company(3, 4, 1);
+        Due.law(z, "call own=2;", 0);
+        Due.is("one is called", z.light(0), 1);
+        Due.is("not the second", z.of(1, 3), FireWards.NONE);
         FireWards y = new FireWards(4, 4);
         y.house(24, 9, 6);
         y.company(2, 4, 23);
@@ -271,6 +291,8 @@ public final class LawTest {
         Due.is("the tape is empty", x.count(8), 0);
         Due.is("no fault", x.fault(), FireWards.NONE);
         Due.is("laws", x.count(6), 6);
+        Due.is("a seventh, with a fault", Due.law(x, "pay x;", 0), -9);
+        Due.is("its fault is not looked for", x.fault(), FireWards.NONE);
         Due.illegal("wrong day before all else", () -> x.law(0, 101));
     }
 }
