@@ -1,4 +1,7 @@
+import java.io.IOException;
 import java.nio.charset.StandardCharsets;
+import java.nio.file.Files;
+import java.nio.file.Path;
 
 /** What the tests share: comparing an answer with the one that is due, and feeding a law's text. */
 final class Due {
@@ -6,17 +9,64 @@ final class Due {
         void run();
     }
 
+    private static final Path DOCUMENT = Path.of("..", "shared", "DOC.md");
+
     private static int wrong = 0;
     private static int looked = 0;
+    private static int sentences = 0;
+    private static int lookedBefore = 0;
+    private static String sentence = "";
+    private static String document;
 
     private Due() {
+    }
+
+    /** What is looked at from here on tests this sentence of the document, told in its own words. */
+    static void says(String words) {
+        endSentence();
+        sentences++;
+        sentence = words;
+        lookedBefore = looked;
+        // The words are looked for, so that a test can't outlive the sentence that it is for.
+        if (!document().isEmpty() && !document().contains(words)) {
+            miss("the document does not say so");
+        }
+    }
+
+    private static void endSentence() {
+        if (!sentence.isEmpty() && looked == lookedBefore) {
+            miss("nothing was looked at");
+        }
+        sentence = "";
+    }
+
+    private static String document() {
+        if (document == null) {
+            try {
+                document = Files.exists(DOCUMENT) ? Files.readString(DOCUMENT).replaceAll("\\s+", " ") : "";
+            } catch (IOException e) {
+                document = "";
+            }
+        }
+        return document;
+    }
+
+    private static void miss(String line) {
+        wrong++;
+        System.out.println((sentence.isEmpty() ? "" : "[" + sentence + "] ") + line);
     }
 
     static void is(String call, long got, long want) {
         looked++;
         if (got != want) {
-            wrong++;
-            System.out.println(call + " answered " + got + ", due is " + want);
+            miss(call + " answered " + got + ", due is " + want);
+        }
+    }
+
+    static void same(String call, Object got, Object want) {
+        looked++;
+        if (!got.equals(want)) {
+            miss(call + " answered " + got + ", due is " + want);
         }
     }
 
@@ -45,8 +95,7 @@ final class Due {
             got = e.getClass().getSimpleName();
         }
         if (!got.equals(want)) {
-            wrong++;
-            System.out.println(call + " threw " + got + ", due is " + want);
+            miss(call + " threw " + got + ", due is " + want);
         }
     }
 
@@ -72,7 +121,9 @@ final class Due {
     }
 
     static void end(String name) {
-        System.out.println(name + ": " + looked + " answers looked at, " + wrong + " not as due");
+        endSentence();
+        String told = sentences == 0 ? "" : " for " + sentences + " sentences";
+        System.out.println(name + ": " + looked + " answers looked at" + told + ", " + wrong + " not as due");
         if (wrong != 0 || looked == 0) {
             System.exit(1);
         }
