@@ -29,6 +29,7 @@ public final class BoundsHourTest {
         allAtOnce();
         fiveBurns();
         bells();
+        bellsOfNoOtherHour();
         bellsOfTheHour();
         aheadOfAllBells();
         hourIsOneMore();
@@ -351,6 +352,17 @@ public final class BoundsHourTest {
             x.hours(1);
             Due.is("without it", x.cell(12, 5), far <= 2 ? 9 : 6);
         }
+        // In the first and in the last cell too.
+        for (int well : new int[] {0, 4}) {
+            for (int men = 1; men <= 9; men += 8) {
+                FireWards z = city(5, "..*..");
+                z.well(well, true);
+                z.company(7, men, well == 0 ? 1 : 3);
+                z.send(0, 2);
+                z.hours(1);
+                Due.is("well at " + well, z.cell(2, 5), 2 * men);
+            }
+        }
         FireWards y = city(5, "ooooo" + "ooooo" + "oo*oo");
         y.company(7, 9, 11);
         y.send(0, 12);
@@ -665,6 +677,14 @@ public final class BoundsHourTest {
         z.hours(1);
         Due.is("3", z.cell(1, 4), 3);
         Due.is("whole", z.cell(1, 0), 0);
+        // The first and the last cell burn like all others.
+        for (int cell = 0; cell < 6; cell++) {
+            FireWards v = city(3, "######");
+            v.light(cell % 3 == 2 ? cell - 1 : cell + 1);
+            v.hours(5);
+            Due.is("cell " + cell, v.cell(cell, 0), 1);
+            Due.is("its warmth", v.cell(cell, 4), 5);
+        }
         // The most that can be: 4 and one fire more on each side.
         FireWards w = city(3, "#*#" + "###" + "#*#");
         w.hours(1);
@@ -720,6 +740,56 @@ public final class BoundsHourTest {
         Due.law(w, "call fires=3 and far=3;", 0);
         w.hours(5);
         Due.is("the first bell counts both", w.of(0, 3), 1);
+    }
+
+    private static void bellsOfNoOtherHour() {
+        Due.says("(f) BELLS: of each that began to burn now");
+        // 1 and 3 began to burn in the fifth hour, 0 and 4 begin in the tenth; 6 is lit between.
+        FireWards x = new FireWards(6, 0);
+        for (int cell = 0; cell < 7; cell++) {
+            x.house(cell, cell == 5 ? 0 : 9, cell);
+        }
+        x.company(1, 1, 5);
+        x.company(3, 1, 5);
+        x.light(2);
+        x.hours(5);
+        Due.is("called to 1", x.of(0, 3), 1);
+        Due.is("called to 3", x.of(1, 3), 3);
+        x.company(1, 1, 5);
+        x.company(3, 1, 5);
+        x.company(0, 1, 5);
+        Due.is("6 is lit", x.light(6), 0);
+        int[] goals = {1, 3, NONE, NONE, NONE};
+        for (int i = 0; i < 5; i++) {
+            Due.is("no other bell rang for " + i, x.of(i, 3), goals[i]);
+        }
+        x.hours(1);
+        Due.is("who is called to 3 has its roof", x.cell(3, 6), 1);
+        x.hours(1);
+        for (int i = 0; i < 5; i++) {
+            Due.is("nor in an hour without one, " + i, x.of(i, 3), goals[i]);
+        }
+        x.hours(3);
+        Due.is("0 burns", x.cell(0, 0), 1);
+        Due.is("its bell", x.of(4, 3), 0);
+        Due.is("no bell of 1", x.of(2, 3), NONE);
+        Due.is("no bell of 3", x.of(3, 3), NONE);
+        // First two in one hour, then one alone in a later one.
+        FireWards y = new FireWards(5, 0);
+        for (int cell = 0; cell < 4; cell++) {
+            y.house(cell, 9, cell);
+        }
+        y.light(1);
+        y.hours(5);
+        Due.is("three burn", y.count(1), 3);
+        y.company(2, 1, 5);
+        y.company(0, 1, 5);
+        y.company(3, 1, 5);
+        y.hours(5);
+        Due.is("3 burns too", y.cell(3, 0), 1);
+        Due.is("no bell of 2", y.of(0, 3), NONE);
+        Due.is("no bell of 0", y.of(1, 3), NONE);
+        Due.is("the bell of 3", y.of(2, 3), 3);
     }
 
     private static void bellsOfTheHour() {

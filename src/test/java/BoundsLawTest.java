@@ -149,6 +149,16 @@ public final class BoundsLawTest {
         law(longest);
         law(" ".repeat(399) + ";", 1, 399);
         law(" ".repeat(400));
+        // Its last byte ends a word, a number or a sign.
+        law(" ".repeat(396) + "call", 1, 400);
+        law(" ".repeat(397) + "cal", 1, 397);
+        law("pay" + " ".repeat(393) + "ward", 1, 400);
+        law("pay" + " ".repeat(393) + "war" + "e", 3, 396);
+        law("pay" + " ".repeat(392) + "12345", 1, 400);
+        law("pay" + " ".repeat(391) + "123456", 2, 394);
+        law("pay" + " ".repeat(396) + "(", 1, 400);
+        law("pay 1" + " ".repeat(394) + ";");
+        law("pay1" + "+1".repeat(197) + ";\n");
         // Six of them, with each a pay of its own.
         FireWards x = new FireWards(1, 0);
         x.company(0, 4, 1);
@@ -658,6 +668,12 @@ public final class BoundsLawTest {
         law("call 1 and (((((1)))));");
         law("call 1 and ((((((1))))));", 2, 17);
         law("call (((((1)))))+(((((2)))))*(((((3)))));");
+        // As much as can wait for what is within: an and, a test and a sum in each.
+        String deep = "1";
+        for (int i = 0; i < 6; i++) {
+            deep = "1 and 7=3+" + (i == 0 ? "4" : "(" + deep + ")*3+1");
+        }
+        Due.is("the deepest", paid("pay " + deep.replace("7=3+(", "13=3+(") + ";"), 1);
         law("call (((((1)+(2)))));");
         law("call (((((1)+((2))))));", 2, 15);
     }
@@ -813,6 +829,17 @@ public final class BoundsLawTest {
             Due.is("the tape is empty", x.count(8), 0);
             Due.illegal("nothing is left", () -> x.law(1, 0));
             Due.is("but none is fine", x.law(0, 0), fault[n] == 0 ? 1 : 0);
+        }
+        // What stands behind the n bytes makes no number or word longer.
+        String[] texts = {"call 123456;", "call ward;", "call wards;", "calls 1;", "call 12;", "pay 1 ;"};
+        int[] lengths = {10, 8, 9, 4, 6, 6};
+        int[] faults = {1, 3, 1, 1, 1, 1};
+        int[] places = {10, 5, 9, 4, 6, 6};
+        for (int i = 0; i < texts.length; i++) {
+            FireWards x = new FireWards(0, 0);
+            Due.feed(x, texts[i]);
+            Due.is(texts[i], x.law(lengths[i], 0), -1 - faults[i]);
+            Due.is(texts[i] + " place", x.fault(), places[i]);
         }
         // What an earlier text left behind is not read again.
         FireWards y = new FireWards(0, 0);
