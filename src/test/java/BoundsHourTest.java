@@ -228,6 +228,31 @@ public final class BoundsHourTest {
         Due.is("on the goal, one cell in all", step(1, "*", 0, 0), 0);
         Due.is("on the goal, to pull it down", step(1, "#", 0, 0), 0);
         Due.is("in a corner", step(2, ".*" + "**", 0, 3), 0);
+        // Where it could go to and fro, but not to the goal.
+        Due.is("shut up in two cells", step(4, "..**", 1, 3), 1);
+        Due.is("shut up in two cells", step(4, "**..", 2, 0), 2);
+        Due.is("shut up in four cells", step(4, "..*." + "..*." + "***." + "...*", 5, 15), 5);
+        Due.is("shut up in four cells, below", step(4, "*..." + ".***" + ".*.." + ".*..", 10, 0), 10);
+        // Also when the companies of this city have gone everywhere before.
+        FireWards y = city(5, "....#" + "....#" + "####*" + "....#" + "....*");
+        y.company(7, 1, 0);
+        y.company(7, 1, 20);
+        y.send(0, 24);
+        y.send(1, 14);
+        y.hours(1);
+        Due.is("on the way", y.of(0, 2), 1);
+        Due.is("on the way", y.of(1, 2), 15);
+        for (int cell = 10; cell < 14; cell++) {
+            y.light(cell);
+        }
+        y.light(4);
+        y.light(9);
+        y.light(19);
+        y.send(0, 24);
+        y.send(1, 4);
+        y.hours(1);
+        Due.is("shut up above", y.of(0, 2), 1);
+        Due.is("shut up below", y.of(1, 2), 15);
         // On a burning one beside the goal it is there.
         Due.is("beside, on a burning one", step(3, ".*." + "***" + ".*.", 1, 4), 1);
         // And goes when there is a way again: 1 burns nine hours.
